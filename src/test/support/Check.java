@@ -1,0 +1,112 @@
+/** What the tests share: answers are compared here, and texts are written into an object. */
+final class Check {
+    /** A call that may throw. */
+    interface Call {
+        void make();
+    }
+
+    private static int wrong = 0;
+
+    private Check() {
+    }
+
+    static void due(String what, long got, long want) {
+        if (got != want) {
+            report(what + " answered " + got + ", due is " + want);
+        }
+    }
+
+    static void due(String what, boolean got, boolean want) {
+        due(what, got ? 1 : 0, want ? 1 : 0);
+    }
+
+    /** The very class is due: what the machine throws by itself is often a class below it. */
+    static void dueThrow(String what, Class<? extends RuntimeException> want, Call call) {
+        try {
+            call.make();
+        } catch (RuntimeException e) {
+            if (e.getClass() != want) {
+                report(what + " threw " + e + ", due is " + want.getName());
+            }
+            return;
+        }
+        report(what + " threw nothing, due is " + want.getName());
+    }
+
+    static void report(String message) {
+        wrong++;
+        if (wrong <= 50) {
+            System.out.println(message);
+        }
+    }
+
+    static void end() {
+        System.out.println(wrong == 0 ? "all answers are as due" : wrong + " answers are not as due");
+        if (wrong != 0) {
+            System.exit(1);
+        }
+    }
+
+    /** The characters as the bytes of a long, the first one the lowest. */
+    static long packed(String eight) {
+        long all = 0;
+        for (int k = eight.length() - 1; k >= 0; k--) {
+            all = all << 8 | eight.charAt(k);
+        }
+        return all;
+    }
+
+    static void append(RoundCompiler x, String text) {
+        for (int from = 0; from < text.length(); from += 8) {
+            String part = text.substring(from, Math.min(text.length(), from + 8));
+            due("write of " + part, x.write(packed(part)), true);
+        }
+    }
+
+    static void replace(RoundCompiler x, String text) {
+        x.wipe();
+        append(x, text);
+    }
+
+    /** An object for which this text is ready. */
+    static RoundCompiler compiled(String text) {
+        RoundCompiler x = new RoundCompiler();
+        append(x, text);
+        try {
+            x.compile();
+        } catch (IllegalArgumentException e) {
+            report(text + " has a fault at " + x.fault() + ", due is none");
+        }
+        return x;
+    }
+
+    static RoundCompiler ran(String text) {
+        RoundCompiler x = compiled(text);
+        x.run();
+        return x;
+    }
+
+    static void dueFault(String text, int place) {
+        RoundCompiler x = new RoundCompiler();
+        append(x, text);
+        dueThrow("compile() of " + text, IllegalArgumentException.class, () -> x.compile());
+        due("fault() of " + text, x.fault(), place);
+    }
+
+    static void dueStatements(String text, int statements) {
+        RoundCompiler x = new RoundCompiler();
+        append(x, text);
+        int got = -1;
+        try {
+            got = x.compile();
+        } catch (IllegalArgumentException e) {
+            report(text + " has a fault at " + x.fault() + ", due is none");
+        }
+        due("compile() of " + text, got, statements);
+        due("fault() of " + text, x.fault(), 0);
+    }
+
+    static void dueValue(String text, char name, int want) {
+        due("value of " + name + " by " + text, ran(text).value(name - 'a'), want);
+    }
+}
