@@ -75,6 +75,13 @@ public final class RunTest {
         Check.due("work() of what is ready", x.work(), 1);
         x.compile();
         Check.due("work() of the new one", x.work(), 3);
+        for (int again = 0; again < 4; again++) {
+            x.compile();
+            Check.due("work() of the same once more", x.work(), 3);
+        }
+        x.wipe();
+        x.compile();
+        Check.due("work() of the empty text", x.work(), 0);
     }
 
     private static void sums() {
@@ -263,6 +270,14 @@ public final class RunTest {
         y.poke(3, 4);
         Check.due("run() once it can", y.run(), 2);
         Check.due("b", y.value(1), 15);
+        RoundCompiler z = Check.compiled("x=1;a=x+(x+(x+(x+(x+(x+@[@[0]]*0)))))+1;");
+        z.poke(0, -1);
+        for (int again = 0; again < 10; again++) {
+            Check.dueThrow("run() in the midst of a sum", OUTSIDE, () -> z.run());
+        }
+        z.poke(0, 1);
+        z.run();
+        Check.due("a behind failed sums", z.value(0), 6);
     }
 
     private static void addressIsWorkedOutFirst() {

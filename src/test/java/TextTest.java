@@ -12,6 +12,7 @@ public final class TextTest {
         compileTakesTheEdges();
         compileReplaces();
         compileWithFaultKeepsTheOldProgram();
+        nothingOfAFaultStays();
         faultIsOfTheLatestCompile();
         faultsOfTheGrammar();
         faultsOfTextsThatEnd();
@@ -191,6 +192,17 @@ public final class TextTest {
         Check.due("work() behind a fault", y.work(), 0);
         Check.append(y, "=2;");
         Check.due("the text has stayed", y.compile(), 2);
+    }
+
+    private static void nothingOfAFaultStays() {
+        RoundCompiler x = new RoundCompiler();
+        Check.append(x, "#i64{?1{#j10{a=~(b+");
+        Check.dueThrow("compile()", REFUSED, () -> x.compile());
+        Check.replace(x, "i=1;j=2;#i64{#j10{}}?1{?1{?1{?1{?1{?1{?1{}}}}}}}");
+        Check.due("compile() behind a fault in loops", x.compile(), 11);
+        Check.due("fault() behind a fault in loops", x.fault(), 0);
+        Check.due("work() behind a fault in loops", x.work(), 0);
+        Check.due("run() behind a fault in loops", x.run(), 2);
     }
 
     private static void faultIsOfTheLatestCompile() {
