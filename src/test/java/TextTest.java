@@ -371,6 +371,14 @@ public final class TextTest {
         Check.dueFault("a=(b;c=99999999999;", 5);
         Check.dueFault("a=99999999999;b=(c;", 3);
         Check.dueFault("#i99{i=1;}", 3);
+        Check.dueFault("?4294967296a=1;", 2);
+        Check.dueFault("a=~4294967296;", 4);
+        Check.dueFault("a=(4294967296;", 4);
+        Check.dueFault("a=@[4294967296;", 5);
+        Check.dueFault("a=b<32;", 5);
+        Check.dueFault("a=b+4294967296;", 5);
+        Check.dueFault("@[4294967296b=1;", 3);
+        Check.dueFault("@[1]=4294967296b=1;", 6);
         Check.dueFault("#i9{i=99999999999;}", 5);
     }
 }
