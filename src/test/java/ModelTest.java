@@ -2,30 +2,32 @@
 public final class ModelTest {
     private static final String CHARACTERS = "abij0123456789$+-*&|^<>~()@[]=;#?{}!zA";
     private static final int TEXTS = 60000;
-    private static final int RUNS = 150;
-    private static final int CALLS = 511;
+    private static final int RUNS = 400;
+    /** An object promises nothing for more calls. */
+    private static final int MOST_CALLS = 512;
 
     private static long state = 20261115L;
+    private static int calls = 0;
 
     public static void main(String[] args) {
         int faulty = 0;
         int failing = 0;
         for (int k = 0; k < TEXTS; k++) {
             String text = someText();
-            RoundCompiler x = new RoundCompiler();
+            RoundCompiler x = newObject();
             Model model = new Model();
             append(x, model, text);
             compile(x, model);
             faulty += model.fault == 0 ? 0 : 1;
-            Check.due("work() of " + text, x.work(), model.work());
+            work(x, model);
             fill(x, model, 192, below(7), below(3));
             failing += run(x, model) ? 0 : 1;
             compareAll(x, model);
         }
         for (int k = 0; k < RUNS; k++) {
-            RoundCompiler x = new RoundCompiler();
+            RoundCompiler x = newObject();
             Model model = new Model();
-            for (int call = 0; call < CALLS; call++) {
+            while (calls < MOST_CALLS) {
                 someCall(x, model);
             }
         }
@@ -33,6 +35,17 @@ public final class ModelTest {
         Check.due("enough texts have a fault", faulty > TEXTS / 5 && faulty < TEXTS * 4 / 5, true);
         Check.due("enough runs fail or cannot begin", failing > TEXTS / 5 && failing < TEXTS * 9 / 10, true);
         Check.end();
+    }
+
+    private static RoundCompiler newObject() {
+        calls = 0;
+        return new RoundCompiler();
+    }
+
+    /** Counts a call of the object that is in use; false if it is one too many. */
+    private static boolean mayCall() {
+        calls++;
+        return calls <= MOST_CALLS;
     }
 
     /** The same numbers each time: a test that fails must fail again. */
@@ -55,10 +68,22 @@ public final class ModelTest {
     }
 
     private static void write(RoundCompiler x, Model model, long characters) {
-        Check.due("write(" + characters + ")", x.write(characters), model.write(characters));
+        if (mayCall()) {
+            Check.due("write(" + characters + ")", x.write(characters), model.write(characters));
+        }
+    }
+
+    private static void wipe(RoundCompiler x, Model model) {
+        if (mayCall()) {
+            x.wipe();
+            model.text = "";
+        }
     }
 
     private static void compile(RoundCompiler x, Model model) {
+        if (!mayCall()) {
+            return;
+        }
         int want = model.compile();
         if (want < 0) {
             Check.dueThrow("compile() of " + model.text, IllegalArgumentException.class, () -> x.compile());
@@ -69,10 +94,31 @@ public final class ModelTest {
                 Check.report("compile() of " + model.text + " met a fault, due is none");
             }
         }
-        Check.due("fault() of " + model.text, x.fault(), model.fault);
+        fault(x, model);
+    }
+
+    private static void fault(RoundCompiler x, Model model) {
+        if (mayCall()) {
+            Check.due("fault() of " + model.text, x.fault(), model.fault);
+        }
+    }
+
+    private static void work(RoundCompiler x, Model model) {
+        if (mayCall()) {
+            Check.due("work() with " + model.text, x.work(), model.work());
+        }
+    }
+
+    private static void mixed(RoundCompiler x, Model model) {
+        if (mayCall()) {
+            Check.due("mixed() by " + model.text, x.mixed(), model.mixed());
+        }
     }
 
     private static boolean run(RoundCompiler x, Model model) {
+        if (!mayCall()) {
+            return false;
+        }
         if (!model.isReady()) {
             Check.dueThrow("run() of none", IllegalStateException.class, () -> x.run());
             return false;
@@ -91,6 +137,9 @@ public final class ModelTest {
     }
 
     private static void fill(RoundCompiler x, Model model, int n, int first, int by) {
+        if (!mayCall()) {
+            return;
+        }
         if (n < 0 || n > 192) {
             Check.dueThrow("fill(" + n + ")", IllegalArgumentException.class, () -> x.fill(n, first, by));
         } else {
@@ -100,37 +149,39 @@ public final class ModelTest {
     }
 
     private static void compareAll(RoundCompiler x, Model model) {
-        Check.due("mixed() by " + model.text, x.mixed(), model.mixed());
+        mixed(x, model);
         for (int name = 0; name < 26; name++) {
-            Check.due("value(" + name + ") by " + model.text, x.value(name), model.value(name));
+            value(x, model, name);
         }
         for (int address = 0; address < 192; address++) {
-            Check.due("peek(" + address + ") by " + model.text, x.peek(address), (int) model.memory[address]);
+            peek(x, model, address);
         }
     }
 
     private static void someCall(RoundCompiler x, Model model) {
         switch (below(14)) {
             case 0 -> {
-                x.wipe();
-                model.text = "";
+                wipe(x, model);
                 append(x, model, someText());
             }
             case 1 -> write(x, model, below(3) == 0 ? someWord() : Check.packed("a=a+1;i=".substring(0, below(9))));
             case 2, 3 -> compile(x, model);
-            case 4 -> Check.due("work()", x.work(), model.work());
+            case 4 -> work(x, model);
             case 5, 6 -> run(x, model);
             case 7 -> poke(x, model, below(210) - 9, someWord());
             case 8 -> peek(x, model, below(210) - 9);
             case 9 -> fill(x, model, below(210) - 9, someWord(), someWord());
             case 10 -> value(x, model, below(30) - 2);
-            case 11 -> Check.due("fault()", x.fault(), model.fault);
-            case 12 -> Check.due("mixed()", x.mixed(), model.mixed());
+            case 11 -> fault(x, model);
+            case 12 -> mixed(x, model);
             default -> append(x, model, someText());
         }
     }
 
     private static void poke(RoundCompiler x, Model model, int address, int word) {
+        if (!mayCall()) {
+            return;
+        }
         if (address < 0 || address > 191) {
             Check.dueThrow("poke(" + address + ")", IndexOutOfBoundsException.class, () -> x.poke(address, word));
         } else {
@@ -140,18 +191,24 @@ public final class ModelTest {
     }
 
     private static void peek(RoundCompiler x, Model model, int address) {
+        if (!mayCall()) {
+            return;
+        }
         if (address < 0 || address > 191) {
             Check.dueThrow("peek(" + address + ")", IndexOutOfBoundsException.class, () -> x.peek(address));
         } else {
-            Check.due("peek(" + address + ")", x.peek(address), (int) model.memory[address]);
+            Check.due("peek(" + address + ") by " + model.text, x.peek(address), (int) model.memory[address]);
         }
     }
 
     private static void value(RoundCompiler x, Model model, int name) {
+        if (!mayCall()) {
+            return;
+        }
         if (name < 0 || name > 25) {
             Check.dueThrow("value(" + name + ")", IndexOutOfBoundsException.class, () -> x.value(name));
         } else {
-            Check.due("value(" + name + ")", x.value(name), model.value(name));
+            Check.due("value(" + name + ") by " + model.text, x.value(name), model.value(name));
         }
     }
 

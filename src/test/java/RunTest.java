@@ -23,44 +23,40 @@ public final class RunTest {
         Check.end();
     }
 
-    private static void dueWork(String text, int want) {
-        Check.due("work() of " + text, Check.compiled(text).work(), want);
-    }
-
     private static void workCountsWhatIsNotSettled() {
-        dueWork("", 0);
-        dueWork("a=1;", 0);
-        dueWork("a=b;", 0);
-        dueWork("a=1+2-3*4&5|6^7;", 0);
-        dueWork("a=b+2-3*4&5|6^7;", 6);
-        dueWork("a=1+2+b;", 1);
-        dueWork("a=1+b+2;", 2);
-        dueWork("a=b+(1+2);", 1);
-        dueWork("a=(1+2)*(3+4);", 0);
-        dueWork("a=(b)*(3+4);", 1);
-        dueWork("a=((5))+(((6)));", 0);
-        dueWork("a=~5;", 0);
-        dueWork("a=~b;", 1);
-        dueWork("a=~~5<3>2;", 0);
-        dueWork("a=~~b<3>2;", 4);
-        dueWork("a=~(5<3)+6>1;", 0);
-        dueWork("a=1+b<3;", 2);
-        dueWork("a=1+2<3;", 0);
-        dueWork("a=@[1+2];", 0);
-        dueWork("a=@[1]+2;", 1);
-        dueWork("a=~@[1];", 1);
-        dueWork("a=@[1]<2;", 1);
-        dueWork("a=@[b+2]+@[3+4];", 2);
-        dueWork("@[1+2]=3+4;", 0);
-        dueWork("@[b+2]=3+c;", 2);
-        dueWork("?1+2{a=b+c;}", 1);
-        dueWork("?b+2{a=1+2;}", 1);
-        dueWork("?0{a=b+c;}", 1);
-        dueWork("#i9{a=i+1;b=2+2;}", 1);
-        dueWork("a=0*b;", 1);
-        dueWork("a=5;b=6;c=5+a;d=5+6;", 1);
-        dueWork("?1{a=2;}b=3+4;", 0);
-        dueWork("@[5]=6;a=b+7+8;", 2);
+        Check.dueWork("", 0);
+        Check.dueWork("a=1;", 0);
+        Check.dueWork("a=b;", 0);
+        Check.dueWork("a=1+2-3*4&5|6^7;", 0);
+        Check.dueWork("a=b+2-3*4&5|6^7;", 6);
+        Check.dueWork("a=1+2+b;", 1);
+        Check.dueWork("a=1+b+2;", 2);
+        Check.dueWork("a=b+(1+2);", 1);
+        Check.dueWork("a=(1+2)*(3+4);", 0);
+        Check.dueWork("a=(b)*(3+4);", 1);
+        Check.dueWork("a=((5))+(((6)));", 0);
+        Check.dueWork("a=~5;", 0);
+        Check.dueWork("a=~b;", 1);
+        Check.dueWork("a=~~5<3>2;", 0);
+        Check.dueWork("a=~~b<3>2;", 4);
+        Check.dueWork("a=~(5<3)+6>1;", 0);
+        Check.dueWork("a=1+b<3;", 2);
+        Check.dueWork("a=1+2<3;", 0);
+        Check.dueWork("a=@[1+2];", 0);
+        Check.dueWork("a=@[1]+2;", 1);
+        Check.dueWork("a=~@[1];", 1);
+        Check.dueWork("a=@[1]<2;", 1);
+        Check.dueWork("a=@[b+2]+@[3+4];", 2);
+        Check.dueWork("@[1+2]=3+4;", 0);
+        Check.dueWork("@[b+2]=3+c;", 2);
+        Check.dueWork("?1+2{a=b+c;}", 1);
+        Check.dueWork("?b+2{a=1+2;}", 1);
+        Check.dueWork("?0{a=b+c;}", 1);
+        Check.dueWork("#i9{a=i+1;b=2+2;}", 1);
+        Check.dueWork("a=0*b;", 1);
+        Check.dueWork("a=5;b=6;c=5+a;d=5+6;", 1);
+        Check.dueWork("?1{a=2;}b=3+4;", 0);
+        Check.dueWork("@[5]=6;a=b+7+8;", 2);
     }
 
     private static void workIsOfWhatIsReady() {
@@ -180,20 +176,16 @@ public final class RunTest {
         Check.dueValue("?1{a=1;}?a{a=2;}?a-2{a=3;}", 'a', 2);
     }
 
-    private static void dueSteps(String text, int want) {
-        Check.due("run() of " + text, Check.compiled(text).run(), want);
-    }
-
     private static void steps() {
-        dueSteps("", 0);
-        dueSteps("a=1;@[0]=2;", 2);
-        dueSteps("#i5{}", 0);
-        dueSteps("?1{}", 0);
-        dueSteps("#i5{a=1;b=2;}", 10);
-        dueSteps("#i5{?i>1{a=1;}}c=1;", 4);
-        dueSteps("#i5{#j4{@[j]=i;}b=1;}", 25);
-        dueSteps("?0{a=1;b=2;}", 0);
-        dueSteps("?1{?1{a=1;}b=2;}", 2);
+        Check.dueSteps("", 0);
+        Check.dueSteps("a=1;@[0]=2;", 2);
+        Check.dueSteps("#i5{}", 0);
+        Check.dueSteps("?1{}", 0);
+        Check.dueSteps("#i5{a=1;b=2;}", 10);
+        Check.dueSteps("#i5{?i>1{a=1;}}c=1;", 4);
+        Check.dueSteps("#i5{#j4{@[j]=i;}b=1;}", 25);
+        Check.dueSteps("?0{a=1;b=2;}", 0);
+        Check.dueSteps("?1{?1{a=1;}b=2;}", 2);
         RoundCompiler x = Check.compiled("a=1;b=2;");
         x.run();
         Check.due("run() again", x.run(), 2);
@@ -215,35 +207,30 @@ public final class RunTest {
         Check.due("b of the next program", x.value(1), 0);
     }
 
-    private static void dueFail(String text) {
-        RoundCompiler x = Check.compiled(text);
-        Check.dueThrow("run() of " + text, OUTSIDE, () -> x.run());
-    }
-
     private static void runsThatFail() {
-        dueFail("a=@[192];");
-        dueFail("a=@[4294967295];");
-        dueFail("a=@[$80000000];");
-        dueFail("a=@[2147483647];");
-        dueFail("a=@[0-1];");
-        dueFail("@[192]=1;");
-        dueFail("@[4294967295]=1;");
-        dueFail("@[$80000000]=1;");
-        dueFail("@[300]=@[1];");
-        dueFail("@[1]=@[300];");
-        dueFail("@[@[300]]=1;");
-        dueFail("a=@[300]*0;");
-        dueFail("a=@[@[192]];");
-        dueFail("?@[192]{}");
-        dueFail("#i64{@[i*4]=1;}");
-        dueFail("?1{?1{a=@[192];}}");
+        Check.dueFail("a=@[192];");
+        Check.dueFail("a=@[4294967295];");
+        Check.dueFail("a=@[$80000000];");
+        Check.dueFail("a=@[2147483647];");
+        Check.dueFail("a=@[0-1];");
+        Check.dueFail("@[192]=1;");
+        Check.dueFail("@[4294967295]=1;");
+        Check.dueFail("@[$80000000]=1;");
+        Check.dueFail("@[300]=@[1];");
+        Check.dueFail("@[1]=@[300];");
+        Check.dueFail("@[@[300]]=1;");
+        Check.dueFail("a=@[300]*0;");
+        Check.dueFail("a=@[@[192]];");
+        Check.dueFail("?@[192]{}");
+        Check.dueFail("#i64{@[i*4]=1;}");
+        Check.dueFail("?1{?1{a=@[192];}}");
     }
 
     private static void whatIsNotUsedDoesNotFail() {
-        dueSteps("?0{a=@[192];@[192]=1;}", 0);
-        dueSteps("#i48{@[i*4]=1;}", 48);
-        dueSteps("#i3{?i-3{a=@[191];}}", 3);
-        dueSteps("a=192;b=4294967295;", 2);
+        Check.dueSteps("?0{a=@[192];@[192]=1;}", 0);
+        Check.dueSteps("#i48{@[i*4]=1;}", 48);
+        Check.dueSteps("#i3{?i-3{a=@[191];}}", 3);
+        Check.dueSteps("a=192;b=4294967295;", 2);
     }
 
     private static void aFailedRunChangesNothing() {

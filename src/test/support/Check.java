@@ -6,8 +6,14 @@ final class Check {
     }
 
     private static int wrong = 0;
+    private static String sentence = "";
 
     private Check() {
+    }
+
+    /** The sentence of the document that the next comparisons are about. */
+    static void sentence(String words) {
+        sentence = "\"" + words + "\": ";
     }
 
     static void due(String what, long got, long want) {
@@ -36,7 +42,7 @@ final class Check {
     static void report(String message) {
         wrong++;
         if (wrong <= 50) {
-            System.out.println(message);
+            System.out.println(sentence + message);
         }
     }
 
@@ -82,7 +88,11 @@ final class Check {
 
     static RoundCompiler ran(String text) {
         RoundCompiler x = compiled(text);
-        x.run();
+        try {
+            x.run();
+        } catch (IndexOutOfBoundsException | IllegalStateException e) {
+            report("run() of " + text + " threw " + e + ", due is an answer");
+        }
         return x;
     }
 
@@ -106,7 +116,53 @@ final class Check {
         due("fault() of " + text, x.fault(), 0);
     }
 
+    static void dueWork(String text, int want) {
+        due("work() of " + text, compiled(text).work(), want);
+    }
+
+    static void dueSteps(String text, int want) {
+        dueSteps(text, compiled(text), want);
+    }
+
+    static void dueSteps(String what, RoundCompiler x, int want) {
+        try {
+            due("run() of " + what, x.run(), want);
+        } catch (IndexOutOfBoundsException | IllegalStateException e) {
+            report("run() of " + what + " threw " + e + ", due is " + want);
+        }
+    }
+
+    static void dueFail(String text) {
+        RoundCompiler x = compiled(text);
+        dueThrow("run() of " + text, IndexOutOfBoundsException.class, () -> x.run());
+    }
+
     static void dueValue(String text, char name, int want) {
         due("value of " + name + " by " + text, ran(text).value(name - 'a'), want);
+    }
+
+    /**
+     * All that calls without a change can tell of an object. It takes 221 calls, so two of them are
+     * well within the 512 for which an object is promised to answer.
+     */
+    static String stateOf(RoundCompiler x) {
+        StringBuilder all = new StringBuilder();
+        all.append("fault ").append(x.fault()).append(", work ").append(x.work());
+        all.append(", mixed ").append(x.mixed()).append(", names");
+        for (int name = 0; name < 26; name++) {
+            all.append(' ').append(x.value(name));
+        }
+        all.append(", words");
+        for (int address = 0; address < 192; address++) {
+            all.append(' ').append(x.peek(address));
+        }
+        return all.toString();
+    }
+
+    static void dueState(String what, RoundCompiler x, String want) {
+        String got = stateOf(x);
+        if (!got.equals(want)) {
+            report(what + " left " + got + ", due is " + want);
+        }
     }
 }
