@@ -4,29 +4,29 @@ public final class FaultEdgeTest {
     private static final Class<IllegalStateException> NOT_READY = IllegalStateException.class;
 
     public static void main(String[] args) {
-        firstPlaceThatCannotGoOn();
-        textsThatEndTooEarly();
-        tooGreatNumbers();
-        tooManyDigits();
-        bitsFrom1To31();
-        loopsFrom1To64();
-        loopNamesOfLoopsAround();
-        namesOfLoopsAround();
-        whateverFollowsTheName();
-        productOfLoops();
-        productIsAtTheNumber();
-        insideOfTwelveBrackets();
-        insideOfTwelveOfAllThree();
-        statementsBeginWithAnotherSign();
-        whatIsInside();
-        insideOfEightBlocks();
-        compileMakesReady();
-        compileAnswersAtAnyDepth();
-        compileThrows();
-        compileThatThrowsChangesNothing();
-        faultOfTheLatest();
-        faultOfNone();
-        Check.end();
+        Check.all(
+                FaultEdgeTest::firstPlaceThatCannotGoOn,
+                FaultEdgeTest::textsThatEndTooEarly,
+                FaultEdgeTest::tooGreatNumbers,
+                FaultEdgeTest::tooManyDigits,
+                FaultEdgeTest::bitsFrom1To31,
+                FaultEdgeTest::loopsFrom1To64,
+                FaultEdgeTest::loopNamesOfLoopsAround,
+                FaultEdgeTest::namesOfLoopsAround,
+                FaultEdgeTest::whateverFollowsTheName,
+                FaultEdgeTest::productOfLoops,
+                FaultEdgeTest::productIsAtTheNumber,
+                FaultEdgeTest::insideOfTwelveBrackets,
+                FaultEdgeTest::insideOfTwelveOfAllThree,
+                FaultEdgeTest::statementsBeginWithAnotherSign,
+                FaultEdgeTest::whatIsInside,
+                FaultEdgeTest::insideOfEightBlocks,
+                FaultEdgeTest::compileMakesReady,
+                FaultEdgeTest::compileAnswersAtAnyDepth,
+                FaultEdgeTest::compileThrows,
+                FaultEdgeTest::compileThatThrowsChangesNothing,
+                FaultEdgeTest::faultOfTheLatest,
+                FaultEdgeTest::faultOfNone);
     }
 
     private static void firstPlaceThatCannotGoOn() {

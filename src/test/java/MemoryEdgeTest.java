@@ -6,19 +6,19 @@ public final class MemoryEdgeTest {
     private static final int[] WORDS = {0, 1, -1, Integer.MIN_VALUE, Integer.MAX_VALUE, 0x80000001};
 
     public static void main(String[] args) {
-        pokeMakesTheWord();
-        pokeOutside();
-        peekAnswersTheWord();
-        peekOutside();
-        fillOfNone();
-        fillOfAll();
-        fillLeavesTheRest();
-        fillWraps();
-        fillOfTooManyOrTooFew();
-        mixedOfOneWord();
-        mixedOfAllWords();
-        mixedModulo32();
-        Check.end();
+        Check.all(
+                MemoryEdgeTest::pokeMakesTheWord,
+                MemoryEdgeTest::pokeOutside,
+                MemoryEdgeTest::peekAnswersTheWord,
+                MemoryEdgeTest::peekOutside,
+                MemoryEdgeTest::fillOfNone,
+                MemoryEdgeTest::fillOfAll,
+                MemoryEdgeTest::fillLeavesTheRest,
+                MemoryEdgeTest::fillWraps,
+                MemoryEdgeTest::fillOfTooManyOrTooFew,
+                MemoryEdgeTest::mixedOfOneWord,
+                MemoryEdgeTest::mixedOfAllWords,
+                MemoryEdgeTest::mixedModulo32);
     }
 
     /** An object of which all that can be told is not 0. */

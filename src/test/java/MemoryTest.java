@@ -4,13 +4,13 @@ public final class MemoryTest {
     private static final int[] NO_ADDRESS = {-1, 192, 193, -192, Integer.MIN_VALUE, Integer.MAX_VALUE};
 
     public static void main(String[] args) {
-        pokeAndPeek();
-        wrongAddresses();
-        fillWritesARow();
-        fillWraps();
-        fillRefuses();
-        mixedTurnsByAddress();
-        Check.end();
+        Check.all(
+                MemoryTest::pokeAndPeek,
+                MemoryTest::wrongAddresses,
+                MemoryTest::fillWritesARow,
+                MemoryTest::fillWraps,
+                MemoryTest::fillRefuses,
+                MemoryTest::mixedTurnsByAddress);
     }
 
     private static void pokeAndPeek() {

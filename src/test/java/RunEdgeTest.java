@@ -6,35 +6,36 @@ public final class RunEdgeTest {
             {"192", "193", "256", "2147483647", "2147483648", "4294967104", "4294967295", "$c0", "0-1", "191+1"};
 
     public static void main(String[] args) {
-        memoryOf192();
-        namesAreZeroAtFirst();
-        leftToRight();
-        wraps();
-        turnsToTheLeft();
-        movesToTheRight();
-        turnsAllBits();
-        wordsAtAddresses();
-        namesHaveTheirValueFromThenOn();
-        addressThenSumThenWord();
-        loopsGoFromZero();
-        loopsLeaveTheLast();
-        branchesOnWhatIsNotZero();
-        stepsAreStatementsThatHaveBeenRun();
-        readingFails();
-        writingFails();
-        whatIsNotReachedDoesNotFail();
-        settledOperators();
-        bracketsMeanNothing();
-        workOfWhatIsReady();
-        workOfNone();
-        runAnswersSteps();
-        runOfNone();
-        runThatFailsChangesNothing();
-        runThatFailsInTheMidst();
-        valueOfTheLatest();
-        valueOfNone();
-        valueOfNoName();
-        Check.end();
+        Check.all(
+                RunEdgeTest::memoryOf192,
+                RunEdgeTest::namesAreZeroAtFirst,
+                RunEdgeTest::leftToRight,
+                RunEdgeTest::wraps,
+                RunEdgeTest::turnsToTheLeft,
+                RunEdgeTest::movesToTheRight,
+                RunEdgeTest::turnsAllBits,
+                RunEdgeTest::wordsAtAddresses,
+                RunEdgeTest::namesHaveTheirValueFromThenOn,
+                RunEdgeTest::addressThenSumThenWord,
+                RunEdgeTest::loopsGoFromZero,
+                RunEdgeTest::loopsLeaveTheLast,
+                RunEdgeTest::branchesOnWhatIsNotZero,
+                RunEdgeTest::stepsAreStatementsThatHaveBeenRun,
+                RunEdgeTest::readingFails,
+                RunEdgeTest::writingFails,
+                RunEdgeTest::whatIsNotReachedDoesNotFail,
+                RunEdgeTest::settledOperators,
+                RunEdgeTest::bracketsMeanNothing,
+                RunEdgeTest::workOfWhatIsReady,
+                RunEdgeTest::workOfNone,
+                RunEdgeTest::runAnswersSteps,
+                RunEdgeTest::runOfTheLongestPrograms,
+                RunEdgeTest::runOfNone,
+                RunEdgeTest::runThatFailsChangesNothing,
+                RunEdgeTest::runThatFailsInTheMidst,
+                RunEdgeTest::valueOfTheLatest,
+                RunEdgeTest::valueOfNone,
+                RunEdgeTest::valueOfNoName);
     }
 
     private static void memoryOf192() {
@@ -80,6 +81,8 @@ public final class RunEdgeTest {
         Check.dueValue("b=1;c=2;d=3;a=b-c-d;", 'a', -4);
         Check.dueValue("b=1;c=2;d=3;a=b|c&d;", 'a', 3);
         Check.dueValue("b=4;c=2;d=3;a=b|c&d;", 'a', 2);
+        Check.dueValue("b=6;c=3;d=2;a=b|c-d;", 'a', 5);
+        Check.dueValue("b=6;c=3;d=2;a=b^c*d;", 'a', 10);
         Check.dueValue("b=6;c=2;d=3;a=b^c+d;", 'a', 7);
         Check.dueValue("b=6;c=2;d=3;a=b+c^d;", 'a', 11);
         Check.dueValue("b=6;c=2;d=3;a=b&c-d;", 'a', -1);
@@ -393,6 +396,19 @@ public final class RunEdgeTest {
         Check.dueSteps("the third time", x, 1);
         Check.append(x, "c=3;");
         Check.dueSteps("what is ready, not the text", x, 1);
+    }
+
+    private static void runOfTheLongestPrograms() {
+        Check.sentence("Runs the program that is ready: how many steps it made.");
+        RoundCompiler x = Check.compiled("#i64{#j10{a=b" + "+c".repeat(229) + ";c=1;}}");
+        Check.dueSteps("long sums in all turns", x, 1280);
+        Check.due("value of a, long sums", x.value(0), 229);
+        RoundCompiler y = Check.compiled("#i64{#j10{" + "?1{}".repeat(116) + "}}b=9;");
+        Check.dueSteps("empty branches in all turns", y, 1);
+        Check.due("value of b, empty branches", y.value(1), 9);
+        RoundCompiler z = Check.compiled("#i64{#j10{" + "#k1{}".repeat(92) + "}}b=9;");
+        Check.dueSteps("empty loops in all turns", z, 1);
+        Check.due("value of b, empty loops", z.value(1), 9);
     }
 
     private static void runOfNone() {

@@ -3,24 +3,24 @@ public final class RunTest {
     private static final Class<IndexOutOfBoundsException> OUTSIDE = IndexOutOfBoundsException.class;
 
     public static void main(String[] args) {
-        workCountsWhatIsNotSettled();
-        workIsOfWhatIsReady();
-        sums();
-        turnsAndMoves();
-        numbers();
-        words();
-        loops();
-        branches();
-        steps();
-        aRunBeginsWithNamesOfZero();
-        runsThatFail();
-        whatIsNotUsedDoesNotFail();
-        aFailedRunChangesNothing();
-        addressIsWorkedOutFirst();
-        deepestSums();
-        longestRun();
-        valueAnswersNamesOnly();
-        Check.end();
+        Check.all(
+                RunTest::workCountsWhatIsNotSettled,
+                RunTest::workIsOfWhatIsReady,
+                RunTest::sums,
+                RunTest::turnsAndMoves,
+                RunTest::numbers,
+                RunTest::words,
+                RunTest::loops,
+                RunTest::branches,
+                RunTest::steps,
+                RunTest::aRunBeginsWithNamesOfZero,
+                RunTest::runsThatFail,
+                RunTest::whatIsNotUsedDoesNotFail,
+                RunTest::aFailedRunChangesNothing,
+                RunTest::addressIsWorkedOutFirst,
+                RunTest::deepestSums,
+                RunTest::longestRun,
+                RunTest::valueAnswersNamesOnly);
     }
 
     private static void workCountsWhatIsNotSettled() {

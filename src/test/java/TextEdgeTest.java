@@ -5,31 +5,31 @@ public final class TextEdgeTest {
     private static final int[] NO_CHARACTERS = {1, 9, 10, 31, 32, 127, 128, 160, 161, 254, 255};
 
     public static void main(String[] args) {
-        callsOfAnObject();
-        callsThatThrowCountToo();
-        newText();
-        newReady();
-        newMemory();
-        mostCharacters();
-        charactersFrom33To126();
-        placesBeginAtOne();
-        programOfNoStatements();
-        statementsOfEachSort();
-        sumsOfOneAndOfMany();
-        turnsOfNoneAndOfMany();
-        factorsOfEachSort();
-        namesFromAToZ();
-        numbersOfOneToTenDigits();
-        numbersUpToTheGreatest();
-        numbersToTheBase16();
-        digitsTogether();
-        writeLowestFirst();
-        writeLeavesOutZeros();
-        writeRefusesOtherBytes();
-        writeRefusesMoreThan480();
-        wipeMakesEmpty();
-        wipeLeavesWhatIsReady();
-        Check.end();
+        Check.all(
+                TextEdgeTest::callsOfAnObject,
+                TextEdgeTest::callsThatThrowCountToo,
+                TextEdgeTest::newText,
+                TextEdgeTest::newReady,
+                TextEdgeTest::newMemory,
+                TextEdgeTest::mostCharacters,
+                TextEdgeTest::charactersFrom33To126,
+                TextEdgeTest::placesBeginAtOne,
+                TextEdgeTest::programOfNoStatements,
+                TextEdgeTest::statementsOfEachSort,
+                TextEdgeTest::sumsOfOneAndOfMany,
+                TextEdgeTest::turnsOfNoneAndOfMany,
+                TextEdgeTest::factorsOfEachSort,
+                TextEdgeTest::namesFromAToZ,
+                TextEdgeTest::numbersOfOneToTenDigits,
+                TextEdgeTest::numbersUpToTheGreatest,
+                TextEdgeTest::numbersToTheBase16,
+                TextEdgeTest::digitsTogether,
+                TextEdgeTest::writeLowestFirst,
+                TextEdgeTest::writeLeavesOutZeros,
+                TextEdgeTest::writeRefusesOtherBytes,
+                TextEdgeTest::writeRefusesMoreThan480,
+                TextEdgeTest::wipeMakesEmpty,
+                TextEdgeTest::wipeLeavesWhatIsReady);
     }
 
     private static void callsOfAnObject() {

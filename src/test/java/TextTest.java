@@ -3,25 +3,25 @@ public final class TextTest {
     private static final Class<IllegalArgumentException> REFUSED = IllegalArgumentException.class;
 
     public static void main(String[] args) {
-        newObject();
-        writeAddsBytes();
-        writeRefusesBytes();
-        writeRefusesLength();
-        wipeLeavesWhatIsReady();
-        compileCounts();
-        compileTakesTheEdges();
-        compileReplaces();
-        compileWithFaultKeepsTheOldProgram();
-        nothingOfAFaultStays();
-        faultIsOfTheLatestCompile();
-        faultsOfTheGrammar();
-        faultsOfTextsThatEnd();
-        faultsOfNumbers();
-        faultsOfNames();
-        faultsOfLoopNumbers();
-        faultsOfDepth();
-        firstFaultCounts();
-        Check.end();
+        Check.all(
+                TextTest::newObject,
+                TextTest::writeAddsBytes,
+                TextTest::writeRefusesBytes,
+                TextTest::writeRefusesLength,
+                TextTest::wipeLeavesWhatIsReady,
+                TextTest::compileCounts,
+                TextTest::compileTakesTheEdges,
+                TextTest::compileReplaces,
+                TextTest::compileWithFaultKeepsTheOldProgram,
+                TextTest::nothingOfAFaultStays,
+                TextTest::faultIsOfTheLatestCompile,
+                TextTest::faultsOfTheGrammar,
+                TextTest::faultsOfTextsThatEnd,
+                TextTest::faultsOfNumbers,
+                TextTest::faultsOfNames,
+                TextTest::faultsOfLoopNumbers,
+                TextTest::faultsOfDepth,
+                TextTest::firstFaultCounts);
     }
 
     private static void newObject() {

@@ -5,10 +5,28 @@ final class Check {
         void make();
     }
 
+    private static final int MOST_REPORTS = 10;
+
     private static int wrong = 0;
     private static String sentence = "";
+    private static int reports = 0;
 
     private Check() {
+    }
+
+    /** Makes each part of a test; what one of them throws does not keep the next from its turn. */
+    static void all(Call... parts) {
+        for (Call part : parts) {
+            sentence = "";
+            reports = 0;
+            try {
+                part.make();
+            } catch (RuntimeException e) {
+                report("a call threw " + e);
+                e.printStackTrace(System.out);
+            }
+        }
+        end();
     }
 
     /** The sentence of the document that the next comparisons are about. */
@@ -41,7 +59,8 @@ final class Check {
 
     static void report(String message) {
         wrong++;
-        if (wrong <= 50) {
+        reports++;
+        if (reports <= MOST_REPORTS) {
             System.out.println(sentence + message);
         }
     }
